@@ -1,0 +1,87 @@
+/** Counts the answers that are not the ones due, and types whole texts. */
+final class Checker {
+    private final String name;
+    private int checked = 0;
+    private int wrong = 0;
+
+    Checker(String name) {
+        this.name = name;
+    }
+
+    void due(String call, long got, long want) {
+        checked++;
+        if (got != want) {
+            wrong++;
+            System.out.println(name + ": " + call + " answered " + got + ", due is " + want);
+        }
+    }
+
+    void that(String claim, boolean holds) {
+        due(claim, holds ? 1 : 0, 1);
+    }
+
+    /** Types a text on the line, each character of which must be taken. */
+    void type(ParagraphSetter x, String text) {
+        for (int k = 0; k < text.length(); k++) {
+            int before = x.count(6);
+            due("type '" + text.charAt(k) + "' of \"" + text + "\"", x.type(text.charAt(k)), before + 1);
+        }
+    }
+
+    void define(ParagraphSetter x, char macro, String body) {
+        type(x, body);
+        due("define " + macro + " as \"" + body + "\"", x.define(macro - 'A'), ParagraphSetter.DONE);
+    }
+
+    void pattern(ParagraphSetter x, String text) {
+        int before = x.count(5);
+        type(x, text);
+        due("pattern \"" + text + "\"", x.pattern(), before + 1);
+    }
+
+    void paragraph(ParagraphSetter x, String text, int want) {
+        type(x, text);
+        due("paragraph \"" + text + "\"", x.paragraph(), want);
+        due("length of the line behind paragraph \"" + text + "\"", x.count(6), 0);
+    }
+
+    /** The characters of a line, up to the 0 behind its end. */
+    static String shown(ParagraphSetter x, int i) {
+        StringBuilder seen = new StringBuilder();
+        int c = x.character(i, 0);
+        for (int k = 1; c > 0 && k < 200; k++) {
+            seen.append((char) c);
+            c = x.character(i, k);
+        }
+        return seen.toString();
+    }
+
+    void lines(ParagraphSetter x, String... want) {
+        due("lines", x.count(0), want.length);
+        for (int i = 0; i < want.length; i++) {
+            String got = shown(x, i);
+            that("line " + i + " is \"" + got + "\", due is \"" + want[i] + "\"", got.equals(want[i]));
+        }
+    }
+
+    /** Break, kind, natural, difference, badness and letters of a line. */
+    void told(ParagraphSetter x, int i, int... want) {
+        for (int what = 0; what < want.length; what++) {
+            due("line(" + i + ", " + what + ")", x.line(i, what), want[what]);
+        }
+    }
+
+    void places(ParagraphSetter x, int i, int... want) {
+        for (int k = 0; k < want.length; k++) {
+            due("place(" + i + ", " + k + ")", x.place(i, k), want[k]);
+        }
+        due("place(" + i + ", " + want.length + ")", x.place(i, want.length), ParagraphSetter.REFUSED);
+    }
+
+    void finish() {
+        System.out.println(name + ": " + checked + " checked, " + wrong + " wrong");
+        if (wrong != 0 || checked == 0) {
+            System.exit(1);
+        }
+    }
+}
