@@ -760,10 +760,6 @@ public final class ParagraphSetter {
             return i >= 0 && i < lines;
         }
 
-        boolean isLine(int from, int to) {
-            return letters(from, to) + over(sums.dashes, from, to) > 0;
-        }
-
         int letters(int from, int to) {
             return over(sums.letters, from, to);
         }
@@ -776,8 +772,11 @@ public final class ParagraphSetter {
             return parameters[MEASURE] - natural(from, to);
         }
 
-        /** Answers NOT_ALLOWED where there is nothing to stretch, or too little to shrink. */
+        /** Answers NOT_ALLOWED where there is no line, or none that is allowed. */
         long badness(int from, int to) {
+            if (letters(from, to) + over(sums.dashes, from, to) == 0) {
+                return NOT_ALLOWED;
+            }
             int d = difference(from, to);
             if (d == 0 || isLoose(d, to)) {
                 return 0;
@@ -786,7 +785,8 @@ public final class ParagraphSetter {
             if (give == 0 || -d > give) {
                 return NOT_ALLOWED;
             }
-            return 100 * cube(Math.abs(d)) / cube(give);
+            long badness = 100 * cube(Math.abs(d)) / cube(give);
+            return badness > parameters[TOLERANCE] ? NOT_ALLOWED : badness;
         }
 
         long price(int from, int to, long badness) {
@@ -879,27 +879,22 @@ public final class ParagraphSetter {
             nexts[from] = NO_BREAK;
             boolean open = true;
             for (int to = from + 1; to <= last && open; to++) {
-                if (to == last || nexts[to] != NO_BREAK) {
-                    tryLine(setting, from, to);
+                long badness = setting.badness(from, to);
+                boolean goesOn = to == last || nexts[to] != NO_BREAK;
+                if (goesOn && badness != NOT_ALLOWED) {
+                    keepBetter(from, to, setting.price(from, to, badness));
                 }
                 open = setting.breaks.kinds[to] != AT_BAR;
             }
         }
 
-        private void tryLine(Setting setting, int from, int to) {
-            if (!setting.isLine(from, to)) {
-                return;
-            }
-            long badness = setting.badness(from, to);
-            if (badness == NOT_ALLOWED || badness > setting.parameters[TOLERANCE]) {
-                return;
-            }
-            long price = prices[to] + setting.price(from, to, badness);
+        private void keepBetter(int from, int to, long price) {
+            long sum = prices[to] + price;
             int many = lines[to] + 1;
             // Among equals the earlier break stays: it was tried first.
-            if (nexts[from] == NO_BREAK || price < prices[from]
-                || price == prices[from] && many < lines[from]) {
-                prices[from] = price;
+            if (nexts[from] == NO_BREAK || sum < prices[from]
+                || sum == prices[from] && many < lines[from]) {
+                prices[from] = sum;
                 lines[from] = many;
                 nexts[from] = to;
             }

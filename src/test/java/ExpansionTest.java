@@ -148,6 +148,10 @@ public final class ExpansionTest {
         check.due("but may have one", x.line(0, 2), 15 + 3 + 4);
         check.paragraph(x, "=9a{=2 } a", 1);
         check.due("the first of two blanks stays, with its space", x.line(0, 2), 12);
+        check.paragraph(x, " {=2 }=8a=3  {=7|} b=6~", 2);
+        check.due("each of the others keeps its own", x.line(1, 2), 11);
+        check.paragraph(x, "  =8a =3|| b=6~c =2d ", 2);
+        check.due("each of the others keeps its own", x.line(1, 2), 15 + 6 + 6);
     }
 
     private static void items(ParagraphSetter x, String text, int items) {
@@ -210,6 +214,8 @@ public final class ExpansionTest {
         points("aabb-aabb", 2, "a1b");
         points("aabb~aabb", 2, "a1b");
         points("aa-bb", 0, "a1b");
+        points("-abb", 0, "a1b");
+        points("~aabb", 1, "a1b");
         points("aa{b}b", 1, "a1b");
         points("aaaaaa", 3, "a1a");
         points("aaaaaa", 3, "a1");
@@ -256,6 +262,7 @@ public final class ExpansionTest {
         counted(x, "aabb-aabb c", 5);
         counted(x, many("a-", 23) + "a", 24);
         check.paragraph(x, many("a-", 24) + "a", BIG);
+        check.paragraph(x, many("a-", 30), BIG);
         counted(x, many("a-", 24), 24);
         check.paragraph(x, many("a-", 22) + "aabb c", BIG);
         counted(x, many("a-", 22) + "aabb", 24);

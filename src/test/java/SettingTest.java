@@ -66,6 +66,10 @@ public final class SettingTest {
         check.places(x, 0, 0, 5, 9);
         check.places(x, 1, 0, 5, 14);
         check.due("cost()", x.cost(), 200);
+        check.due("measure", x.parameter(0, 25), 0);
+        check.paragraph(x, "aa bb", 1);
+        check.told(x, 0, 2, 4, 24, 1, 0, 4);
+        check.places(x, 0, 0, 5, 10, 14, 19);
         // Too long, the last line is shrunk like the others.
         check.due("measure", x.parameter(0, 17), 0);
         check.paragraph(x, "=9c~d|=9c d", 2);
@@ -106,6 +110,10 @@ public final class SettingTest {
         check.told(x, 0, 2, 0, 24, 2, 100, 4);
         check.due("tolerance", x.parameter(1, 99), 0);
         check.paragraph(x, "aa bb cc", OVERFULL);
+        check.due("measure", x.parameter(0, 25), 0);
+        check.paragraph(x, "aa bb cc", 2);
+        check.told(x, 0, 2, 0, 24, 1, 12, 4);
+        check.places(x, 0, 0, 5, 10, 15, 20);
         check.due("tolerance", x.parameter(1, 0), 0);
         check.due("measure", x.parameter(0, 24), 0);
         check.paragraph(x, "aa bb cc", 2);
@@ -124,6 +132,7 @@ public final class SettingTest {
         ParagraphSetter x = made(23, 10000);
         check.paragraph(x, "aa bb", 1);
         check.told(x, 0, 2, 4, 24, -1, 100, 4);
+        check.places(x, 0, 0, 5, 10, 13, 18);
         check.due("measure", x.parameter(0, 22), 0);
         check.paragraph(x, "aa bb", OVERFULL);
         check.due("measure", x.parameter(0, 21), 0);
