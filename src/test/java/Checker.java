@@ -1,11 +1,22 @@
+import java.util.ArrayList;
+import java.util.List;
+
 /** Counts the answers that are not the ones due, and types whole texts. */
 final class Checker {
     private final String name;
     private int checked = 0;
     private int wrong = 0;
+    private final List<Counted> made = new ArrayList<>();
 
     Checker(String name) {
         this.name = name;
+    }
+
+    /** A new object, which must not be called more often than the document promises answers for. */
+    Counted fresh() {
+        Counted x = new Counted();
+        made.add(x);
+        return x;
     }
 
     void due(String call, long got, long want) {
@@ -21,32 +32,32 @@ final class Checker {
     }
 
     /** Types a text on the line, each character of which must be taken. */
-    void type(ParagraphSetter x, String text) {
+    void type(Counted x, String text) {
+        int before = x.count(6);
         for (int k = 0; k < text.length(); k++) {
-            int before = x.count(6);
-            due("type '" + text.charAt(k) + "' of \"" + text + "\"", x.type(text.charAt(k)), before + 1);
+            due("type '" + text.charAt(k) + "' of \"" + text + "\"", x.type(text.charAt(k)), before + k + 1);
         }
     }
 
-    void define(ParagraphSetter x, char macro, String body) {
+    void define(Counted x, char macro, String body) {
         type(x, body);
         due("define " + macro + " as \"" + body + "\"", x.define(macro - 'A'), ParagraphSetter.DONE);
     }
 
-    void pattern(ParagraphSetter x, String text) {
+    void pattern(Counted x, String text) {
         int before = x.count(5);
         type(x, text);
         due("pattern \"" + text + "\"", x.pattern(), before + 1);
     }
 
-    void paragraph(ParagraphSetter x, String text, int want) {
+    void paragraph(Counted x, String text, int want) {
         type(x, text);
         due("paragraph \"" + text + "\"", x.paragraph(), want);
         due("length of the line behind paragraph \"" + text + "\"", x.count(6), 0);
     }
 
     /** The characters of a line, up to the 0 behind its end. */
-    static String shown(ParagraphSetter x, int i) {
+    static String shown(Counted x, int i) {
         StringBuilder seen = new StringBuilder();
         int c = x.character(i, 0);
         for (int k = 1; c > 0 && k < 200; k++) {
@@ -56,7 +67,7 @@ final class Checker {
         return seen.toString();
     }
 
-    void lines(ParagraphSetter x, String... want) {
+    void lines(Counted x, String... want) {
         due("lines", x.count(0), want.length);
         for (int i = 0; i < want.length; i++) {
             String got = shown(x, i);
@@ -65,13 +76,13 @@ final class Checker {
     }
 
     /** Break, kind, natural, difference, badness and letters of a line. */
-    void told(ParagraphSetter x, int i, int... want) {
+    void told(Counted x, int i, int... want) {
         for (int what = 0; what < want.length; what++) {
             due("line(" + i + ", " + what + ")", x.line(i, what), want[what]);
         }
     }
 
-    void places(ParagraphSetter x, int i, int... want) {
+    void places(Counted x, int i, int... want) {
         for (int k = 0; k < want.length; k++) {
             due("place(" + i + ", " + k + ")", x.place(i, k), want[k]);
         }
@@ -79,6 +90,9 @@ final class Checker {
     }
 
     void finish() {
+        for (Counted x : made) {
+            that("a test calls an object " + x.calls() + " times", x.calls() <= Counted.PROMISED);
+        }
         System.out.println(name + ": " + checked + " checked, " + wrong + " wrong");
         if (wrong != 0 || checked == 0) {
             System.exit(1);

@@ -18,24 +18,25 @@ public final class ExpansionTest {
         hyphenation();
         patternsAtEdges();
         breaks();
+        linesAtBreaks();
         refusedParagraphs();
         check.finish();
     }
 
-    private static ParagraphSetter wide() {
-        ParagraphSetter x = new ParagraphSetter();
+    private static Counted wide() {
+        Counted x = check.fresh();
         check.due("measure", x.parameter(0, 400), 0);
         return x;
     }
 
     /** A paragraph of a single line with these characters. */
-    private static void becomes(ParagraphSetter x, String text, String line) {
+    private static void becomes(Counted x, String text, String line) {
         check.paragraph(x, text, 1);
         check.lines(x, line);
     }
 
     private static void faults() {
-        ParagraphSetter x = wide();
+        Counted x = wide();
         check.define(x, 'A', "x#y");
         String[] faulty = {"#", "0", "7a", "a.", "=", "a=", "=0", "=a", "= ", "={", "=A", "=#", "}", "a}", "{}}", "{", "{a",
             "{{}", "A", "A}", "{A}", "A{", "A{b", "A{{b}", "B", "aBa", "A#", "A0", "A.", "A=", "=5=", "==5"};
@@ -47,7 +48,7 @@ public final class ExpansionTest {
     }
 
     private static void arguments() {
-        ParagraphSetter x = wide();
+        Counted x = wide();
         check.define(x, 'A', "x#y");
         check.define(x, 'B', "#");
         check.define(x, 'C', "c");
@@ -78,7 +79,7 @@ public final class ExpansionTest {
     }
 
     private static void callLimit() {
-        ParagraphSetter x = wide();
+        Counted x = wide();
         check.define(x, 'A', "");
         check.define(x, 'B', "#");
         check.paragraph(x, many("A", 40) + "a", 1);
@@ -95,7 +96,7 @@ public final class ExpansionTest {
     }
 
     private static void listLimit() {
-        ParagraphSetter x = wide();
+        Counted x = wide();
         check.define(x, 'A', many("#", 10));
         check.paragraph(x, "A{" + many("{}", 10) + "}", 0);
         check.paragraph(x, "A{" + many("{}", 10) + " }", BIG);
@@ -108,7 +109,7 @@ public final class ExpansionTest {
     }
 
     private static void itemLimit() {
-        ParagraphSetter x = wide();
+        Counted x = wide();
         check.due("width", x.width('a', 1), 0);
         check.define(x, 'A', many("a", 24));
         becomes(x, many("A", 5), many("a", 120));
@@ -123,7 +124,7 @@ public final class ExpansionTest {
     }
 
     private static void groups() {
-        ParagraphSetter x = wide();
+        Counted x = wide();
         becomes(x, many("{", 8) + "a" + many("}", 8), "a");
         check.paragraph(x, many("{", 9) + "a" + many("}", 9), BIG);
         check.paragraph(x, many("{", 9), BIG);
@@ -133,7 +134,7 @@ public final class ExpansionTest {
     }
 
     private static void spaces() {
-        ParagraphSetter x = wide();
+        Counted x = wide();
         check.paragraph(x, "a a", 1);
         check.due("at first 4", x.line(0, 2), 14);
         check.paragraph(x, "a{=9 a} a", 1);
@@ -154,14 +155,14 @@ public final class ExpansionTest {
         check.due("each of the others keeps its own", x.line(1, 2), 15 + 6 + 6);
     }
 
-    private static void items(ParagraphSetter x, String text, int items) {
+    private static void items(Counted x, String text, int items) {
         check.type(x, text);
         x.paragraph();
         check.due("items of \"" + text + "\"", x.count(1), items);
     }
 
     private static void itemsThatGoOut() {
-        ParagraphSetter x = wide();
+        Counted x = wide();
         items(x, "   a", 1);
         items(x, "a   ", 1);
         items(x, "a   b", 3);
@@ -188,7 +189,7 @@ public final class ExpansionTest {
     }
 
     private static void points(String word, int points, String... patterns) {
-        ParagraphSetter x = wide();
+        Counted x = wide();
         for (String pattern : patterns) {
             check.pattern(x, pattern);
         }
@@ -244,13 +245,13 @@ public final class ExpansionTest {
         points("abab", 1, "a2b1a");
     }
 
-    private static void counted(ParagraphSetter x, String text, int breaks) {
+    private static void counted(Counted x, String text, int breaks) {
         check.paragraph(x, text, 1);
         check.due("breaks of \"" + text + "\"", x.count(2), breaks);
     }
 
     private static void breaks() {
-        ParagraphSetter x = wide();
+        Counted x = wide();
         check.pattern(x, "a1b");
         counted(x, "a", 1);
         counted(x, "-", 1);
@@ -266,6 +267,10 @@ public final class ExpansionTest {
         counted(x, many("a-", 24), 24);
         check.paragraph(x, many("a-", 22) + "aabb c", BIG);
         counted(x, many("a-", 22) + "aabb", 24);
+    }
+
+    private static void linesAtBreaks() {
+        Counted x = check.fresh();
         check.due("measure", x.parameter(0, 10), 0);
         check.paragraph(x, many("a-", 24) + "a~~~~", BIG);
         check.paragraph(x, many("a|", 23) + "a", 24);
@@ -275,7 +280,7 @@ public final class ExpansionTest {
     }
 
     private static void refusedParagraphs() {
-        ParagraphSetter x = new ParagraphSetter();
+        Counted x = check.fresh();
         check.define(x, 'A', "b");
         check.paragraph(x, "aA|b-", 2);
         String[] texts = {".", many("{", 9), many("a-", 24) + "a", "aaaaaaaaaaaaa", "~", "b|~", "~|b"};

@@ -26,7 +26,7 @@ public final class LineTest {
     }
 
     private static void newObject() {
-        ParagraphSetter x = new ParagraphSetter();
+        Counted x = check.fresh();
         for (int what = 0; what <= 6; what++) {
             check.due("new: count(" + what + ")", x.count(what), 0);
         }
@@ -42,7 +42,7 @@ public final class LineTest {
     }
 
     private static void firstValues() {
-        ParagraphSetter x = new ParagraphSetter();
+        Counted x = check.fresh();
         check.paragraph(x, "az-~a a", 1);
         check.told(x, 0, 3, 4, 33, 27, 0, 4);
         check.due("the first LINE: cost()", x.cost(), 100);
@@ -60,12 +60,11 @@ public final class LineTest {
     }
 
     private static void type() {
-        ParagraphSetter x = new ParagraphSetter();
         for (int c = -300; c <= 700; c++) {
             boolean isOne = c >= 0 && OF_LINE.indexOf(c) >= 0;
-            check.due("type(" + c + ")", x.type(c), isOne ? 1 : REFUSED);
-            x.wipe();
+            check.due("type(" + c + ")", check.fresh().type(c), isOne ? 1 : REFUSED);
         }
+        Counted x = check.fresh();
         for (int extreme : EXTREMES) {
             check.due("type(" + extreme + ")", x.type(extreme), REFUSED);
         }
@@ -78,7 +77,7 @@ public final class LineTest {
     }
 
     private static void wipe() {
-        ParagraphSetter x = new ParagraphSetter();
+        Counted x = check.fresh();
         check.due("wipe of an empty line", x.wipe(), DONE);
         check.type(x, "ab{");
         check.due("wipe", x.wipe(), DONE);
@@ -90,7 +89,7 @@ public final class LineTest {
     }
 
     private static void width() {
-        ParagraphSetter x = new ParagraphSetter();
+        Counted x = check.fresh();
         for (int c = 'a'; c <= 'z'; c++) {
             check.due("width of " + (char) c, x.width(c, 20), DONE);
         }
@@ -113,7 +112,7 @@ public final class LineTest {
     private static void parameter() {
         int[][] ranges = {{10, 400}, {0, 10000}, {0, 100}, {0, 200}, {0, 10000}};
         for (int i = 0; i < ranges.length; i++) {
-            ParagraphSetter x = new ParagraphSetter();
+            Counted x = check.fresh();
             check.due("parameter " + i + " below", x.parameter(i, ranges[i][0] - 1), REFUSED);
             check.due("parameter " + i + " least", x.parameter(i, ranges[i][0]), DONE);
             check.due("parameter " + i + " most", x.parameter(i, ranges[i][1]), DONE);
@@ -127,7 +126,7 @@ public final class LineTest {
     }
 
     private static void parametersInEffect() {
-        ParagraphSetter x = new ParagraphSetter();
+        Counted x = check.fresh();
         check.pattern(x, "b1c");
         check.pattern(x, "d1e");
         int[] values = {25, 0, 3, 4, 5};
@@ -143,7 +142,7 @@ public final class LineTest {
     }
 
     private static void define() {
-        ParagraphSetter x = new ParagraphSetter();
+        Counted x = check.fresh();
         check.define(x, 'A', "ab");
         check.due("length behind define", x.count(6), 0);
         check.paragraph(x, "A", 1);
@@ -175,7 +174,7 @@ public final class LineTest {
 
     private static void patternsTaken() {
         String[] good = {"a", ".", "..", ".a.", "1.a", "a.9", "0a0", "1a2b3c4d5e6", ".abc.", "abcde", ".abcd", "z9", "9z"};
-        ParagraphSetter x = new ParagraphSetter();
+        Counted x = check.fresh();
         for (int k = 0; k < good.length; k++) {
             check.pattern(x, good[k]);
             check.due("length behind pattern", x.count(6), 0);
@@ -186,7 +185,7 @@ public final class LineTest {
     private static void patternsRefused() {
         String[] bad = {"", "1", "9", "12", "11a", "a11", "a00b", "abcdef", "1a2b3c4d5e6f", ".abcde", ".abcd.", "a.b",
             "..a", "a..", "...", "a.1b", "aA", "A", "a b", " ", "a-", "a~b", "a|", "{a}", "#", "a=1"};
-        ParagraphSetter x = new ParagraphSetter();
+        Counted x = check.fresh();
         for (String text : bad) {
             check.type(x, text);
             check.due("pattern \"" + text + "\"", x.pattern(), SYNTAX);
@@ -209,7 +208,7 @@ public final class LineTest {
     }
 
     private static void patternRoom() {
-        ParagraphSetter x = new ParagraphSetter();
+        Counted x = check.fresh();
         for (int k = 0; k < 20; k++) {
             check.pattern(x, "a1a");
         }
@@ -223,7 +222,7 @@ public final class LineTest {
     }
 
     private static void orderOfDefine() {
-        ParagraphSetter x = new ParagraphSetter();
+        Counted x = check.fresh();
         check.type(x, "abcdefghijklmnopqrstuvwxy");
         check.due("a wrong m with a long line", x.define(4), REFUSED);
         check.due("a wrong m with a long line", x.define(-1), REFUSED);

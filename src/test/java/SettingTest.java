@@ -27,8 +27,8 @@ public final class SettingTest {
         check.finish();
     }
 
-    private static ParagraphSetter made(int... values) {
-        ParagraphSetter x = new ParagraphSetter();
+    private static Counted made(int... values) {
+        Counted x = check.fresh();
         for (int i = 0; i < values.length; i++) {
             check.due("parameter " + i, x.parameter(i, values[i]), 0);
         }
@@ -36,7 +36,7 @@ public final class SettingTest {
     }
 
     private static void shrunkLine() {
-        ParagraphSetter x = made(60);
+        Counted x = made(60);
         // 45 for nine letters and 9 + 9: 3 too much, of 3 + 3 to shrink.
         check.paragraph(x, "=9aaa bbb ccc ddd", 2);
         check.lines(x, "aaa bbb ccc", "ddd");
@@ -49,7 +49,7 @@ public final class SettingTest {
     }
 
     private static void stretchedLine() {
-        ParagraphSetter x = made(61);
+        Counted x = made(61);
         check.paragraph(x, "=9aaa bbb~cc ddd", 2);
         check.lines(x, "aaa bbb cc", "ddd");
         check.told(x, 0, 2, 0, 58, 3, 2, 8);
@@ -59,7 +59,7 @@ public final class SettingTest {
     }
 
     private static void looseLines() {
-        ParagraphSetter x = made(60);
+        Counted x = made(60);
         check.paragraph(x, "a b|=9c~d", 2);
         check.told(x, 0, 2, 3, 14, 46, 0, 2);
         check.told(x, 1, 3, 4, 19, 41, 0, 2);
@@ -81,7 +81,7 @@ public final class SettingTest {
     }
 
     private static void hyphenLine() {
-        ParagraphSetter x = made(40);
+        Counted x = made(40);
         check.pattern(x, "b1c");
         check.due("width", x.width('-', 3), 0);
         // Six letters, a space of 9 and the hyphen of 3: 42, with 3 to shrink.
@@ -105,7 +105,7 @@ public final class SettingTest {
     }
 
     private static void toleranceEdges() {
-        ParagraphSetter x = made(26, 100);
+        Counted x = made(26, 100);
         check.paragraph(x, "aa bb cc", 2);
         check.told(x, 0, 2, 0, 24, 2, 100, 4);
         check.due("tolerance", x.parameter(1, 99), 0);
@@ -129,7 +129,7 @@ public final class SettingTest {
     }
 
     private static void shrinkEdges() {
-        ParagraphSetter x = made(23, 10000);
+        Counted x = made(23, 10000);
         check.paragraph(x, "aa bb", 1);
         check.told(x, 0, 2, 4, 24, -1, 100, 4);
         check.places(x, 0, 0, 5, 10, 13, 18);
@@ -148,7 +148,7 @@ public final class SettingTest {
         // A space of s stretches by (s + 1) / 2: 1 1 2 2 3 3 4 4 5; and D is 2.
         int[] badness = {800, 800, 100, 100, 29, 29, 12, 12, 6};
         for (int s = 1; s <= 9; s++) {
-            ParagraphSetter x = made(22 + s, 10000);
+            Counted x = made(22 + s, 10000);
             check.due("width", x.width('c', 1), 0);
             check.paragraph(x, "=" + s + "aa bb cccccccccc", 2);
             check.told(x, 0, 2, 0, 20 + s, 2, badness[s - 1], 4);
@@ -156,7 +156,7 @@ public final class SettingTest {
     }
 
     private static void leastCost() {
-        ParagraphSetter x = made(30, 10000, 10);
+        Counted x = made(30, 10000, 10);
         check.due("width", x.width('a', 1), 0);
         // At break 2 the line is 11 (D 19, stretch 5: 5487), at 3 it is 21 (D 9, stretch 10: 72),
         // at 4 it is 31 (D -1, shrink 9: 0); a last line behind it costs the same in each case.
@@ -175,7 +175,7 @@ public final class SettingTest {
     }
 
     private static void hyphenPrice() {
-        ParagraphSetter x = made(75, 200, 10, 42);
+        Counted x = made(75, 200, 10, 42);
         check.pattern(x, "b1c");
         for (char c : "abc-".toCharArray()) {
             check.due("width", x.width(c, 1), 0);
@@ -193,7 +193,7 @@ public final class SettingTest {
     }
 
     private static void doublePrice() {
-        ParagraphSetter x = made(25, 200, 10, 50, 10000);
+        Counted x = made(25, 200, 10, 50, 10000);
         check.pattern(x, "b1c");
         check.pattern(x, "d1e");
         check.paragraph(x, "aabbccddeeff", 3);
@@ -206,7 +206,7 @@ public final class SettingTest {
     }
 
     private static void fewestLines() {
-        ParagraphSetter x = made(34, 200, 0);
+        Counted x = made(34, 200, 0);
         check.due("width", x.width('b', 1), 0);
         // "a~~a-" has 1 to stretch by 10, "a~~a-b" is exact: no badness either way.
         check.paragraph(x, "=9a~~a-b", 1);
@@ -215,7 +215,7 @@ public final class SettingTest {
     }
 
     private static void leastBreaks() {
-        ParagraphSetter x = made(34, 200, 0);
+        Counted x = made(34, 200, 0);
         check.due("width", x.width('b', 1), 0);
         check.paragraph(x, "=9a~~a-b c", 2);
         check.told(x, 0, 1, 1, 33, 1, 0, 2);
@@ -228,7 +228,7 @@ public final class SettingTest {
     }
 
     private static void blankBehindDash() {
-        ParagraphSetter x = made(34);
+        Counted x = made(34);
         check.due("width", x.width('b', 1), 0);
         check.paragraph(x, "=9a~~a- bbb ~cc", 2);
         check.due("breaks", x.count(2), 4);
@@ -239,7 +239,7 @@ public final class SettingTest {
     }
 
     private static void bars() {
-        ParagraphSetter x = made(60);
+        Counted x = made(60);
         check.paragraph(x, "a|b c|d-|e", 4);
         check.lines(x, "a", "b c", "d-", "e");
         check.told(x, 0, 1, 3);
@@ -251,7 +251,7 @@ public final class SettingTest {
     }
 
     private static void linesWithoutLetters() {
-        ParagraphSetter x = made(60);
+        Counted x = made(60);
         check.paragraph(x, "~", OVERFULL);
         check.paragraph(x, "~ ~", OVERFULL);
         check.paragraph(x, "a|~|b", OVERFULL);
@@ -264,7 +264,7 @@ public final class SettingTest {
     }
 
     private static void laterChanges() {
-        ParagraphSetter x = made(60);
+        Counted x = made(60);
         check.paragraph(x, "=9aaa bbb ccc ddd", 2);
         check.due("width", x.width('a', 20), 0);
         check.due("width", x.width('-', 20), 0);
@@ -284,7 +284,7 @@ public final class SettingTest {
     }
 
     private static void outOfRange() {
-        ParagraphSetter x = made(60);
+        Counted x = made(60);
         check.paragraph(x, "ab|c", 2);
         int[] wrong = {-1, Integer.MIN_VALUE, Integer.MAX_VALUE};
         for (int n : wrong) {
@@ -307,7 +307,7 @@ public final class SettingTest {
     }
 
     private static void largeCost() {
-        ParagraphSetter x = made(50, 10000, 100);
+        Counted x = made(50, 10000, 100);
         check.due("width", x.width('a', 9), 0);
         check.define(x, 'A', "a~a a~a a~a a~a a~a a~a ");
         check.paragraph(x, "=9AAAA", 24);
@@ -323,7 +323,7 @@ public final class SettingTest {
     }
 
     private static void counts() {
-        ParagraphSetter x = made(25);
+        Counted x = made(25);
         check.pattern(x, "b1c");
         check.define(x, 'A', "bb");
         check.paragraph(x, "aaaaaaA", OVERFULL);
