@@ -4,6 +4,8 @@ import java.util.List;
 /** Counts the answers that are not the ones due, and types whole texts. */
 final class Checker {
     private final String name;
+    private String sentence = "";
+    private int sentences = 0;
     private int checked = 0;
     private int wrong = 0;
     private final List<Counted> made = new ArrayList<>();
@@ -19,16 +21,39 @@ final class Checker {
         return x;
     }
 
+    /** The document's words that the checks from here on are for. */
+    void sentence(String words) {
+        sentence = " [" + words + "]";
+        sentences++;
+    }
+
     void due(String call, long got, long want) {
         checked++;
         if (got != want) {
             wrong++;
-            System.out.println(name + ": " + call + " answered " + got + ", due is " + want);
+            System.out.println(name + ": " + call + " answered " + got + ", due is " + want + sentence);
         }
     }
 
     void that(String claim, boolean holds) {
         due(claim, holds ? 1 : 0, 1);
+    }
+
+    /** A new object with these values for its first parameters. */
+    Counted made(int... values) {
+        Counted x = fresh();
+        for (int i = 0; i < values.length; i++) {
+            parameter(x, i, values[i]);
+        }
+        return x;
+    }
+
+    void parameter(Counted x, int i, int v) {
+        due("parameter(" + i + ", " + v + ")", x.parameter(i, v), ParagraphSetter.DONE);
+    }
+
+    void width(Counted x, char c, int w) {
+        due("width('" + c + "', " + w + ")", x.width(c, w), ParagraphSetter.DONE);
     }
 
     /** Types a text on the line, each character of which must be taken. */
@@ -67,6 +92,12 @@ final class Checker {
         return seen.toString();
     }
 
+    /** Sets a text in these lines. */
+    void sets(Counted x, String text, String... want) {
+        paragraph(x, text, want.length);
+        lines(x, want);
+    }
+
     void lines(Counted x, String... want) {
         due("lines", x.count(0), want.length);
         for (int i = 0; i < want.length; i++) {
@@ -89,11 +120,38 @@ final class Checker {
         due("place(" + i + ", " + want.length + ")", x.place(i, want.length), ParagraphSetter.REFUSED);
     }
 
+    /** All that is told of an object, in one text. */
+    static String seen(Counted x) {
+        StringBuilder all = new StringBuilder("cost " + x.cost() + " counts");
+        for (int what = 0; what <= 6; what++) {
+            all.append(' ').append(x.count(what));
+        }
+        int lines = x.count(0);
+        for (int i = 0; i < lines; i++) {
+            String shown = shown(x, i);
+            all.append("; \"").append(shown).append('"');
+            for (int what = 0; what <= 5; what++) {
+                all.append(' ').append(x.line(i, what));
+            }
+            all.append(" at");
+            for (int k = 0; k < shown.length(); k++) {
+                all.append(' ').append(x.place(i, k));
+            }
+        }
+        return all.toString();
+    }
+
+    void same(String call, String got, String want) {
+        that(call + " leaves " + got + ", due is " + want, got.equals(want));
+    }
+
     void finish() {
+        sentence = "";
         for (Counted x : made) {
             that("a test calls an object " + x.calls() + " times", x.calls() <= Counted.PROMISED);
         }
-        System.out.println(name + ": " + checked + " checked, " + wrong + " wrong");
+        System.out.println(name + ": " + (sentences > 0 ? sentences + " sentences, " : "")
+            + checked + " checked, " + wrong + " wrong");
         if (wrong != 0 || checked == 0) {
             System.exit(1);
         }
