@@ -3,6 +3,12 @@ import java.util.List;
 
 /** Counts the answers that are not the ones due, and types whole texts. */
 final class Checker {
+    /** Numbers far out of every range, some of which would fall into one as a byte or a char. */
+    static final int[] FAR = {Integer.MIN_VALUE, Integer.MIN_VALUE + 1, -65536, -256, 256, 65536,
+        Integer.MAX_VALUE - 1, Integer.MAX_VALUE};
+    /** What seen tells of an object that has nothing. */
+    static final String NOTHING_SEEN = "cost 0 counts 0 0 0 0 0 0 0";
+
     private final String name;
     private String sentence = "";
     private int sentences = 0;

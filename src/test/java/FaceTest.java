@@ -36,6 +36,9 @@ public final class FaceTest {
         }
         TreeSet<String> got = new TreeSet<>();
         for (Method method : face.getDeclaredMethods()) {
+            if (method.isSynthetic()) {
+                continue;
+            }
             if (Modifier.isPrivate(method.getModifiers())) {
                 check.that(method.getName() + " is no name for a private method",
                     !publicNames.contains(method.getName()));
@@ -56,7 +59,7 @@ public final class FaceTest {
         String[] names = {"DONE", "REFUSED", "FULL", "SYNTAX", "BIG", "OVERFULL"};
         int visible = 0;
         for (Field field : face.getDeclaredFields()) {
-            if (!Modifier.isPrivate(field.getModifiers())) {
+            if (!Modifier.isPrivate(field.getModifiers()) && !field.isSynthetic()) {
                 visible++;
             }
         }

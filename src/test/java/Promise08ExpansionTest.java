@@ -1,10 +1,10 @@
 /** Promise 8, as far as EXPANSION, the ITEMS that go out, HYPHENATION POINTS and BREAKS. */
-public final class ExpansionTest {
+public final class Promise08ExpansionTest {
     private static final int SYNTAX = ParagraphSetter.SYNTAX;
     private static final int BIG = ParagraphSetter.BIG;
     private static final int OVERFULL = ParagraphSetter.OVERFULL;
 
-    private static final Checker check = new Checker("ExpansionTest");
+    private static final Checker check = new Checker("Promise08ExpansionTest");
 
     public static void main(String[] args) {
         faults();
