@@ -11,6 +11,8 @@ public final class Promise08ExpansionTest {
         arguments();
         callLimit();
         listLimit();
+        longArgument();
+        longExpansion();
         itemLimit();
         groups();
         spaces();
@@ -106,6 +108,29 @@ public final class Promise08ExpansionTest {
         check.paragraph(x, "A{" + many("{}", 9) + "a}" + many("{}", 5), 1);
         check.lines(x, many("a", 10));
         check.paragraph(x, "A{" + many("{}", 9) + "a}" + many("{}", 5) + "a", BIG);
+    }
+
+    private static void longArgument() {
+        Counted x = wide();
+        check.define(x, 'A', "B{" + many("#", 9) + "}");
+        check.define(x, 'B', "#");
+        // The argument of B has nine times twenty characters.
+        becomes(x, "A{" + many("{}", 9) + "ab}z", many("ab", 9) + "z");
+        check.due("macros called", x.count(4), 2);
+        check.define(x, 'B', "##");
+        check.paragraph(x, "A{" + many("{}", 9) + "ab}z", BIG);
+    }
+
+    private static void longExpansion() {
+        Counted x = wide();
+        check.define(x, 'A', many("#", 9));
+        check.define(x, 'B', "A{" + many("{}", 10) + "}");
+        // Forty calls, with twenty times 180 characters that become no item.
+        becomes(x, many("B", 20) + "b", "b");
+        check.due("macros called", x.count(4), 40);
+        check.paragraph(x, many("B", 20) + "b.", BIG);
+        check.paragraph(x, many("B", 19) + "b.", SYNTAX);
+        becomes(x, "a" + many("B", 19) + "bc", "abc");
     }
 
     private static void itemLimit() {
